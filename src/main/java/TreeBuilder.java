@@ -49,7 +49,13 @@ public final class TreeBuilder {
 
     public int build() {
         tree.beginFor(tokens.count);
-        int error = new Parser(tokens, tree).firstError();
+        Parser parser = new Parser(tokens, tree);
+        int error = NONE;
+        try {
+            parser.file();
+        } catch (IllegalStateException refused) {
+            error = parser.at;
+        }
         tokens.count = 0;
         if (error != NONE) {
             return -1 - error;
@@ -171,6 +177,10 @@ public final class TreeBuilder {
 
         private static boolean exists(int kind) {
             return kind >= NAME && kind <= STRING || kind >= BREAK && kind <= VAR || kind >= PLUS && kind <= COLON;
+        }
+
+        private static boolean beginsDecl(int kind) {
+            return kind == CONST || kind == TYPE || kind == VAR;
         }
 
         private static boolean beginsType(int kind) {
@@ -439,7 +449,7 @@ public final class TreeBuilder {
         /** From the last child to the first: the end of a node's numbers is known, and that of its places. */
         private void numberChildren(int k) {
             int end = k + spanOf(k);
-            int place = places[k] - 1;
+            int place = placeOf(k) - 1;
             int count = childrenOf(k);
             for (int i = 0; i < count; i++) {
                 int span = spanPutAt(place);
@@ -527,6 +537,8 @@ public final class TreeBuilder {
         private final int[] waiting;
         private int waitingCount;
         private int at;
+        /** The kind of the token at which the parser is. */
+        private int kind;
         /** How many parts lie in one another here. */
         private int open;
         /** Whether a Name and '{' make no Literal here. */
@@ -539,15 +551,7 @@ public final class TreeBuilder {
             this.tree = tree;
             waiting = new int[BINDINGS * (DEEPEST + 1)];
             guardWord = NONE;
-        }
-
-        private int firstError() {
-            try {
-                file();
-            } catch (IllegalStateException refused) {
-                return at;
-            }
-            return NONE;
+            kind = tokens.kindAt(0);
         }
 
         // Tokens and parts.
@@ -556,28 +560,25 @@ public final class TreeBuilder {
             throw new IllegalStateException("no program has this token here");
         }
 
-        private int kind() {
-            return tokens.kindAt(at);
-        }
-
         private int nextKind() {
             return tokens.kindAt(at + 1);
         }
 
         private boolean sees(int kind) {
-            return kind() == kind;
+            return this.kind == kind;
         }
 
         private int take() {
             int taken = at;
             at++;
+            kind = tokens.kindAt(at);
             return taken;
         }
 
         private boolean accept(int kind) {
             boolean seen = sees(kind);
             if (seen) {
-                at++;
+                take();
             }
             return seen;
         }
@@ -614,19 +615,15 @@ public final class TreeBuilder {
             closePart();
         }
 
-        private void put(int what, int token, int children) {
-            tree.put(what, token, children);
-        }
-
         private void putLeaf(int what) {
-            put(what, take(), 0);
+            tree.put(what, take(), 0);
         }
 
         private void name() {
             if (!sees(Kind.NAME)) {
                 refuse();
             }
-            putLeaf(What.NAME);
+            tree.put(What.NAME, take(), 0);
         }
 
         // Declarations.
@@ -637,26 +634,17 @@ public final class TreeBuilder {
             expect(Kind.SEMICOLON);
             int children = 1;
             while (children < MANY && !sees(Kind.END)) {
-                top();
+                if (sees(Kind.FUNC)) {
+                    functionDecl();
+                } else if (Kind.beginsDecl(kind)) {
+                    decl();
+                } else {
+                    refuse();
+                }
                 expect(Kind.SEMICOLON);
                 children++;
             }
-            put(What.FILE, first, children);
-        }
-
-        private void top() {
-            switch (kind()) {
-                case Kind.CONST:
-                case Kind.TYPE:
-                case Kind.VAR:
-                    decl();
-                    break;
-                case Kind.FUNC:
-                    functionDecl();
-                    break;
-                default:
-                    refuse();
-            }
+            tree.put(What.FILE, first, children);
         }
 
         private void functionDecl() {
@@ -669,9 +657,9 @@ public final class TreeBuilder {
             signature();
             block();
             if (hasReceiver) {
-                put(What.METHOD_DECL, first, 4);
+                tree.put(What.METHOD_DECL, first, 4);
             } else {
-                put(What.FUNCTION_DECL, first, 3);
+                tree.put(What.FUNCTION_DECL, first, 3);
             }
         }
 
@@ -688,11 +676,11 @@ public final class TreeBuilder {
                 }
             }
             leave(Kind.RIGHT_PAREN);
-            put(What.RECEIVER, first, children);
+            tree.put(What.RECEIVER, first, children);
         }
 
         private void decl() {
-            int word = kind();
+            int word = kind;
             int first = take();
             int children = 1;
             if (sees(Kind.LEFT_PAREN)) {
@@ -700,7 +688,7 @@ public final class TreeBuilder {
             } else {
                 spec(word);
             }
-            put(groupWhat(word), first, children);
+            tree.put(groupWhat(word), first, children);
         }
 
         private static int groupWhat(int word) {
@@ -747,7 +735,7 @@ public final class TreeBuilder {
             int first = at;
             names();
             int children = 1;
-            if (Kind.beginsType(kind())) {
+            if (Kind.beginsType(kind)) {
                 type();
                 children++;
                 if (!sees(Kind.ASSIGN)) {
@@ -758,14 +746,14 @@ public final class TreeBuilder {
                 exprs();
                 children++;
             }
-            put(What.CONST, first, children);
+            tree.put(What.CONST, first, children);
         }
 
         private void typeSpec() {
             int first = at;
             name();
             type();
-            put(What.TYPE_SPEC, first, 2);
+            tree.put(What.TYPE_SPEC, first, 2);
         }
 
         private void varSpec() {
@@ -780,7 +768,7 @@ public final class TreeBuilder {
                 exprs();
                 children++;
             }
-            put(What.VAR, first, children);
+            tree.put(What.VAR, first, children);
         }
 
         private void names() {
@@ -791,7 +779,7 @@ public final class TreeBuilder {
                 name();
                 count++;
             }
-            put(What.NAMES, first, count);
+            tree.put(What.NAMES, first, count);
         }
 
         // Signatures and types.
@@ -803,11 +791,11 @@ public final class TreeBuilder {
             if (sees(Kind.LEFT_PAREN)) {
                 params();
                 children++;
-            } else if (!sees(Kind.ARROW) && Kind.beginsType(kind())) {
+            } else if (!sees(Kind.ARROW) && Kind.beginsType(kind)) {
                 type();
                 children++;
             }
-            put(What.SIGNATURE, first, children);
+            tree.put(What.SIGNATURE, first, children);
         }
 
         private void params() {
@@ -817,7 +805,7 @@ public final class TreeBuilder {
             int count = 0;
             boolean more = true;
             while (count < MANY && more && !sees(Kind.RIGHT_PAREN)) {
-                boolean last = (sees(Kind.NAME) ? nextKind() : kind()) == Kind.DOTS;
+                boolean last = (sees(Kind.NAME) ? nextKind() : kind) == Kind.DOTS;
                 int found = param(style, bare);
                 count++;
                 if (found == BARE) {
@@ -833,7 +821,7 @@ public final class TreeBuilder {
                 refuse();
             }
             leave(Kind.RIGHT_PAREN);
-            put(What.PARAMS, first, count);
+            tree.put(What.PARAMS, first, count);
         }
 
         /** Of the Params before this one: their style, and how many NAMEs at their end are bare. */
@@ -843,8 +831,8 @@ public final class TreeBuilder {
             int found = UNNAMED;
             if (sees(Kind.NAME) && style != UNNAMED) {
                 name();
-                if (!sees(Kind.DOTS) && !Kind.beginsType(kind())) {
-                    put(What.PARAM, first, 1);
+                if (!sees(Kind.DOTS) && !Kind.beginsType(kind)) {
+                    tree.put(What.PARAM, first, 1);
                     return BARE;
                 }
                 children++;
@@ -860,7 +848,7 @@ public final class TreeBuilder {
                 children++;
             }
             type();
-            put(What.PARAM, first, children);
+            tree.put(What.PARAM, first, children);
             return found;
         }
 
@@ -869,11 +857,11 @@ public final class TreeBuilder {
                 name();
                 return;
             }
-            if (!Kind.beginsType(kind())) {
+            if (!Kind.beginsType(kind)) {
                 refuse();
             }
             openPart();
-            switch (kind()) {
+            switch (kind) {
                 case Kind.LEFT_PAREN:
                     take();
                     type();
@@ -912,15 +900,15 @@ public final class TreeBuilder {
             if (hasLength) {
                 boolean wasInHead = inHead;
                 inHead = false;
-                expr();
+                expr(false);
                 inHead = wasInHead;
             }
             expect(Kind.RIGHT_BRACKET);
             type();
             if (hasLength) {
-                put(What.ARRAY_TYPE, first, 2);
+                tree.put(What.ARRAY_TYPE, first, 2);
             } else {
-                put(What.SLICE_TYPE, first, 1);
+                tree.put(What.SLICE_TYPE, first, 1);
             }
         }
 
@@ -930,27 +918,27 @@ public final class TreeBuilder {
             type();
             leave(Kind.RIGHT_BRACKET);
             type();
-            put(What.MAP_TYPE, first, 2);
+            tree.put(What.MAP_TYPE, first, 2);
         }
 
         private void chanType() {
             int first = take();
             int what = accept(Kind.ARROW) ? What.SEND_CHAN_TYPE : What.CHAN_TYPE;
             type();
-            put(what, first, 1);
+            tree.put(what, first, 1);
         }
 
         private void receiveChanType() {
             int first = take();
             expect(Kind.CHAN);
             type();
-            put(What.RECEIVE_CHAN_TYPE, first, 1);
+            tree.put(What.RECEIVE_CHAN_TYPE, first, 1);
         }
 
         private void pointerType() {
             int first = take();
             type();
-            put(What.POINTER_TYPE, first, 1);
+            tree.put(What.POINTER_TYPE, first, 1);
         }
 
         private void structType() {
@@ -962,18 +950,18 @@ public final class TreeBuilder {
                 int start = at;
                 names();
                 type();
-                put(What.FIELD, start, 2);
+                tree.put(What.FIELD, start, 2);
                 count++;
                 more = accept(Kind.SEMICOLON);
             }
             leave(Kind.RIGHT_BRACE);
-            put(What.STRUCT_TYPE, first, count);
+            tree.put(What.STRUCT_TYPE, first, count);
         }
 
         private void functionType() {
             int first = take();
             signature();
-            put(What.FUNCTION_TYPE, first, 1);
+            tree.put(What.FUNCTION_TYPE, first, 1);
         }
 
         private void interfaceType() {
@@ -985,12 +973,12 @@ public final class TreeBuilder {
                 int start = at;
                 name();
                 signature();
-                put(What.METHOD, start, 2);
+                tree.put(What.METHOD, start, 2);
                 count++;
                 more = accept(Kind.SEMICOLON);
             }
             leave(Kind.RIGHT_BRACE);
-            put(What.INTERFACE_TYPE, first, count);
+            tree.put(What.INTERFACE_TYPE, first, count);
         }
 
         // Statements.
@@ -999,7 +987,7 @@ public final class TreeBuilder {
             int first = enter(Kind.LEFT_BRACE);
             int count = stmts();
             leave(Kind.RIGHT_BRACE);
-            put(What.BLOCK, first, count);
+            tree.put(What.BLOCK, first, count);
         }
 
         /** Tells how many statements there were that are not nothing. */
@@ -1017,7 +1005,7 @@ public final class TreeBuilder {
 
         /** Tells whether there was one; the token is left to the caller when it begins none. */
         private boolean stmt() {
-            switch (kind()) {
+            switch (kind) {
                 case Kind.CONST:
                 case Kind.TYPE:
                 case Kind.VAR:
@@ -1044,7 +1032,7 @@ public final class TreeBuilder {
         }
 
         private boolean wordStmt() {
-            switch (kind()) {
+            switch (kind) {
                 case Kind.GO:
                     startStmt(What.GO);
                     return true;
@@ -1070,18 +1058,18 @@ public final class TreeBuilder {
 
         private void startStmt(int what) {
             int first = take();
-            expr();
-            put(what, first, 1);
+            expr(false);
+            tree.put(what, first, 1);
         }
 
         private void returnStmt() {
             int first = take();
             int children = 0;
-            if (Kind.beginsExpr(kind())) {
+            if (Kind.beginsExpr(kind)) {
                 exprs();
                 children++;
             }
-            put(What.RETURN, first, children);
+            tree.put(What.RETURN, first, children);
         }
 
         private void jumpStmt(int what) {
@@ -1091,11 +1079,11 @@ public final class TreeBuilder {
                 name();
                 children++;
             }
-            put(what, first, children);
+            tree.put(what, first, children);
         }
 
         private boolean simpleStmt() {
-            if (!Kind.beginsExpr(kind())) {
+            if (!Kind.beginsExpr(kind)) {
                 return false;
             }
             if (sees(Kind.NAME) && nextKind() == Kind.COLON) {
@@ -1111,13 +1099,13 @@ public final class TreeBuilder {
             int colon = enter(Kind.COLON);
             int children = stmt() ? 2 : 1;
             closePart();
-            put(What.LABELED, colon, children);
+            tree.put(What.LABELED, colon, children);
         }
 
         private void wholeSimple(int place) {
             int first = at;
             if (simple(place) == EXPR_ALONE) {
-                put(What.EXPR_STMT, first, 1);
+                tree.put(What.EXPR_STMT, first, 1);
             }
         }
 
@@ -1133,16 +1121,16 @@ public final class TreeBuilder {
             int count = 1;
             while (count < MANY && accept(Kind.COMMA)) {
                 int start = at;
-                expr();
+                expr(false);
                 allNames = allNames && isNameFrom(start);
                 count++;
             }
             if (sees(Kind.ASSIGN)) {
-                put(What.EXPRS, first, count);
+                tree.put(What.EXPRS, first, count);
                 return assign(place);
             }
             if (sees(Kind.DEFINE) && allNames && place != IN_POST) {
-                put(What.NAMES, first, count);
+                tree.put(What.NAMES, first, count);
                 return define(place, count);
             }
             if (count > 1) {
@@ -1162,16 +1150,16 @@ public final class TreeBuilder {
                 return BEFORE_RANGE;
             }
             int first = at;
-            expr();
+            expr(false);
             restOfExprs(place, first);
-            put(What.ASSIGN, sign, 2);
+            tree.put(What.ASSIGN, sign, 2);
             return WHOLE;
         }
 
         private int define(int place, int nameCount) {
             int sign = take();
             if (place == IN_FOR && sees(Kind.RANGE)) {
-                put(What.RANGE_DEFINE, sign, 1);
+                tree.put(What.RANGE_DEFINE, sign, 1);
                 return BEFORE_RANGE;
             }
             int first = at;
@@ -1181,39 +1169,39 @@ public final class TreeBuilder {
                 return GUARD;
             }
             restOfExprs(place, first);
-            put(What.DEFINE, sign, 2);
+            tree.put(What.DEFINE, sign, 2);
             return WHOLE;
         }
 
         private int behindExpr(int place) {
             if (sees(Kind.ARROW)) {
                 int sign = take();
-                expr();
-                put(What.SEND, sign, 2);
+                expr(false);
+                tree.put(What.SEND, sign, 2);
                 return WHOLE;
             }
             if (place == IN_SELECT) {
                 return EXPR_ALONE;
             }
             if (sees(Kind.INCREMENT)) {
-                put(What.INCREMENT, take(), 1);
+                tree.put(What.INCREMENT, take(), 1);
                 return WHOLE;
             }
             if (sees(Kind.DECREMENT)) {
-                put(What.DECREMENT, take(), 1);
+                tree.put(What.DECREMENT, take(), 1);
                 return WHOLE;
             }
-            if (Kind.isOpAssign(kind())) {
+            if (Kind.isOpAssign(kind)) {
                 int sign = take();
-                expr();
-                put(What.OP_ASSIGN, sign, 2);
+                expr(false);
+                tree.put(What.OP_ASSIGN, sign, 2);
                 return WHOLE;
             }
             return EXPR_ALONE;
         }
 
         private void putGuard(int children) {
-            put(What.GUARD, guardWord, children);
+            tree.put(What.GUARD, guardWord, children);
             guardWord = NONE;
         }
 
@@ -1228,13 +1216,13 @@ public final class TreeBuilder {
                 int found = simple(place);
                 boolean alone = found == EXPR_ALONE;
                 if (alone && sees(Kind.SEMICOLON)) {
-                    put(What.EXPR_STMT, first, 1);
+                    tree.put(What.EXPR_STMT, first, 1);
                 } else if (found != WHOLE) {
                     return found;
                 }
                 children++;
             }
-            put(what, expect(Kind.SEMICOLON), children);
+            tree.put(what, expect(Kind.SEMICOLON), children);
             return WHOLE;
         }
 
@@ -1244,7 +1232,7 @@ public final class TreeBuilder {
             inHead = true;
             int children = 2;
             if (opening(IN_IF, What.INIT) == WHOLE) {
-                expr();
+                expr(false);
                 children++;
             }
             inHead = wasInHead;
@@ -1253,7 +1241,7 @@ public final class TreeBuilder {
                 elseBranch();
                 children++;
             }
-            put(What.IF, first, children);
+            tree.put(What.IF, first, children);
         }
 
         private void elseBranch() {
@@ -1273,7 +1261,7 @@ public final class TreeBuilder {
             int children = 1 + forHead();
             inHead = wasInHead;
             block();
-            put(What.FOR, first, children);
+            tree.put(What.FOR, first, children);
         }
 
         private int forHead() {
@@ -1297,24 +1285,24 @@ public final class TreeBuilder {
 
         private void range(int childrenBefore) {
             int word = take();
-            expr();
-            put(What.RANGE, word, childrenBefore + 1);
+            expr(false);
+            tree.put(What.RANGE, word, childrenBefore + 1);
         }
 
         private void restOfForHead() {
             int children = 0;
             if (!sees(Kind.SEMICOLON)) {
-                expr();
+                expr(false);
                 children++;
             }
             int second = expect(Kind.SEMICOLON);
-            put(What.FOR_CONDITION, second, children);
+            tree.put(What.FOR_CONDITION, second, children);
             children = 0;
             if (!sees(Kind.LEFT_BRACE)) {
                 wholeSimple(IN_POST);
                 children++;
             }
-            put(What.FOR_POST, second, children);
+            tree.put(What.FOR_POST, second, children);
         }
 
         private void switchStmt() {
@@ -1334,7 +1322,7 @@ public final class TreeBuilder {
             }
             inHead = wasInHead;
             children += clauses(guarded ? CASES_OF_TYPES : CASES_OF_EXPRS);
-            put(What.SWITCH, first, children);
+            tree.put(What.SWITCH, first, children);
         }
 
         /** What stands behind the ; of a Switch: tells whether it is a Guard. */
@@ -1348,7 +1336,7 @@ public final class TreeBuilder {
             if (!sees(Kind.DEFINE) || !isNameFrom(first)) {
                 return false;
             }
-            put(What.NAMES, first, 1);
+            tree.put(What.NAMES, first, 1);
             take();
             primary(true);
             if (guardWord == NONE) {
@@ -1360,7 +1348,7 @@ public final class TreeBuilder {
 
         private void selectStmt() {
             int first = take();
-            put(What.SELECT, first, clauses(CASES_OF_COMMS));
+            tree.put(What.SELECT, first, clauses(CASES_OF_COMMS));
         }
 
         private int clauses(int cases) {
@@ -1391,18 +1379,18 @@ public final class TreeBuilder {
                     exprs();
             }
             clauseBody();
-            put(cases == CASES_OF_COMMS ? What.SELECT_CASE : What.CASE, first, 2);
+            tree.put(cases == CASES_OF_COMMS ? What.SELECT_CASE : What.CASE, first, 2);
         }
 
         private void defaultClause(int cases) {
             int first = take();
             clauseBody();
-            put(cases == CASES_OF_COMMS ? What.SELECT_DEFAULT : What.DEFAULT, first, 1);
+            tree.put(cases == CASES_OF_COMMS ? What.SELECT_DEFAULT : What.DEFAULT, first, 1);
         }
 
         private void clauseBody() {
             int colon = expect(Kind.COLON);
-            put(What.BLOCK, colon, stmts());
+            tree.put(What.BLOCK, colon, stmts());
         }
 
         private void types() {
@@ -1413,14 +1401,14 @@ public final class TreeBuilder {
                 type();
                 count++;
             }
-            put(What.TYPES, first, count);
+            tree.put(What.TYPES, first, count);
         }
 
         // Expressions.
 
         private void exprs() {
             int first = at;
-            expr();
+            expr(false);
             restOfExprs(IN_STMTS, first);
         }
 
@@ -1428,14 +1416,10 @@ public final class TreeBuilder {
         private void restOfExprs(int place, int first) {
             int count = 1;
             while (count < MANY && place != IN_SELECT && accept(Kind.COMMA)) {
-                expr();
+                expr(false);
                 count++;
             }
-            put(What.EXPRS, first, count);
-        }
-
-        private void expr() {
-            expr(false);
+            tree.put(What.EXPRS, first, count);
         }
 
         /** Reads a Guard's Primary too where this may stand, up to the end of the Guard. */
@@ -1445,8 +1429,8 @@ public final class TreeBuilder {
             if (guardWord != NONE) {
                 return;
             }
-            for (int turn = 0; turn < MANY && Kind.binding(kind()) > 0; turn++) {
-                putWaiting(outer, Kind.binding(kind()));
+            for (int turn = 0; turn < MANY && Kind.binding(kind) > 0; turn++) {
+                putWaiting(outer, Kind.binding(kind));
                 await(take());
                 unary(false);
             }
@@ -1465,7 +1449,7 @@ public final class TreeBuilder {
             int last = waitingCount - 1;
             while (last >= outer && last >= 0 && last < waiting.length
                     && Kind.binding(tokens.kindAt(waiting[last])) >= binding) {
-                put(What.BINARY, waiting[last], 2);
+                tree.put(What.BINARY, waiting[last], 2);
                 last--;
             }
             waitingCount = last + 1;
@@ -1481,14 +1465,14 @@ public final class TreeBuilder {
             }
             primary(mayBeGuard && signs == 0);
             for (int i = signs - 1; i >= 0; i--) {
-                put(What.UNARY, first + i, 1);
+                tree.put(What.UNARY, first + i, 1);
                 closePart();
             }
         }
 
         private boolean seesUnarySign() {
             boolean beginsChanType = sees(Kind.ARROW) && nextKind() == Kind.CHAN;
-            return Kind.isUnarySign(kind()) && !beginsChanType;
+            return Kind.isUnarySign(kind) && !beginsChanType;
         }
 
         private void primary(boolean mayBeGuard) {
@@ -1501,7 +1485,7 @@ public final class TreeBuilder {
 
         /** Tells whether there was something that makes the former part of a larger Primary. */
         private boolean behindOperand(boolean mayBeGuard) {
-            switch (kind()) {
+            switch (kind) {
                 case Kind.DOT:
                     return dot(mayBeGuard);
                 case Kind.LEFT_BRACKET:
@@ -1519,7 +1503,7 @@ public final class TreeBuilder {
             int first = take();
             if (!sees(Kind.LEFT_PAREN)) {
                 name();
-                put(What.SELECTOR, first, 2);
+                tree.put(What.SELECTOR, first, 2);
                 return true;
             }
             enter(Kind.LEFT_PAREN);
@@ -1528,7 +1512,7 @@ public final class TreeBuilder {
                 guardWord = take();
             } else {
                 type();
-                put(What.ASSERTION, first, 2);
+                tree.put(What.ASSERTION, first, 2);
             }
             leave(Kind.RIGHT_PAREN);
             return !isGuard;
@@ -1539,9 +1523,9 @@ public final class TreeBuilder {
             int first = enter(Kind.LEFT_BRACKET);
             inHead = false;
             if (sees(Kind.COLON)) {
-                put(What.ABSENT, at, 0);
+                tree.put(What.ABSENT, at, 0);
             } else {
-                expr();
+                expr(false);
             }
             int what = What.INDEX;
             int children = 2;
@@ -1551,19 +1535,19 @@ public final class TreeBuilder {
             }
             leave(Kind.RIGHT_BRACKET);
             inHead = wasInHead;
-            put(what, first, children);
+            tree.put(what, first, children);
         }
 
         private int upperBounds() {
             if (sees(Kind.RIGHT_BRACKET)) {
-                put(What.ABSENT, at, 0);
+                tree.put(What.ABSENT, at, 0);
                 return 1;
             }
-            expr();
+            expr(false);
             if (!accept(Kind.COLON)) {
                 return 1;
             }
-            expr();
+            expr(false);
             return 2;
         }
 
@@ -1574,7 +1558,7 @@ public final class TreeBuilder {
             int children = 1;
             boolean more = true;
             while (children < MANY && more && !sees(Kind.RIGHT_PAREN)) {
-                expr();
+                expr(false);
                 children++;
                 boolean last = sees(Kind.DOTS);
                 if (last) {
@@ -1585,11 +1569,11 @@ public final class TreeBuilder {
             }
             leave(Kind.RIGHT_PAREN);
             inHead = wasInHead;
-            put(What.CALL, first, children);
+            tree.put(What.CALL, first, children);
         }
 
         private void operand() {
-            switch (kind()) {
+            switch (kind) {
                 case Kind.INT:
                 case Kind.FLOAT:
                 case Kind.RUNE:
@@ -1611,7 +1595,13 @@ public final class TreeBuilder {
                 case Kind.LEFT_BRACKET:
                 case Kind.MAP:
                 case Kind.STRUCT:
-                    if (literalType() || sees(Kind.LEFT_BRACE)) {
+                    boolean counted = sees(Kind.LEFT_BRACKET) && nextKind() == Kind.DOTS;
+                    if (counted) {
+                        countedArrayType();
+                    } else {
+                        type();
+                    }
+                    if (counted || sees(Kind.LEFT_BRACE)) {
                         elements(What.LITERAL, 1);
                     }
                     break;
@@ -1629,10 +1619,10 @@ public final class TreeBuilder {
             boolean wasInHead = inHead;
             int first = enter(Kind.LEFT_PAREN);
             inHead = false;
-            expr();
+            expr(false);
             leave(Kind.RIGHT_PAREN);
             inHead = wasInHead;
-            put(What.PAREN, first, 1);
+            tree.put(What.PAREN, first, 1);
         }
 
         private void functionOrType() {
@@ -1641,27 +1631,22 @@ public final class TreeBuilder {
             signature();
             if (sees(Kind.LEFT_BRACE)) {
                 block();
-                put(What.FUNCTION, first, 2);
+                tree.put(What.FUNCTION, first, 2);
             } else {
-                put(What.FUNCTION_TYPE, first, 1);
+                tree.put(What.FUNCTION_TYPE, first, 1);
             }
             closePart();
         }
 
-        /** Tells whether it is one that only a Literal has, so that '{' must follow. */
-        private boolean literalType() {
-            if (!sees(Kind.LEFT_BRACKET) || nextKind() != Kind.DOTS) {
-                type();
-                return false;
-            }
+        /** The Type that only a Literal has: its length is counted from the Elements. */
+        private void countedArrayType() {
             openPart();
             int first = take();
             putLeaf(What.DOTS);
             expect(Kind.RIGHT_BRACKET);
             type();
             closePart();
-            put(What.ARRAY_TYPE, first, 2);
-            return true;
+            tree.put(What.ARRAY_TYPE, first, 2);
         }
 
         private void elements(int what, int childrenBefore) {
@@ -1677,20 +1662,20 @@ public final class TreeBuilder {
                 if (keyed) {
                     value();
                 }
-                put(What.ELEMENT, start, keyed ? 2 : 1);
+                tree.put(What.ELEMENT, start, keyed ? 2 : 1);
                 children++;
                 more = accept(Kind.COMMA);
             }
             leave(Kind.RIGHT_BRACE);
             inHead = wasInHead;
-            put(what, first, children);
+            tree.put(what, first, children);
         }
 
         private void value() {
             if (sees(Kind.LEFT_BRACE)) {
                 elements(What.INNER_LITERAL, 0);
             } else {
-                expr();
+                expr(false);
             }
         }
     }

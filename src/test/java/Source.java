@@ -8,7 +8,8 @@ import java.util.List;
  */
 final class Source {
     static final List<String> WORDS = Arrays.asList(("break case chan const continue default defer else fallthrough"
-            + " for func go goto if import interface map package range return select struct switch type var").split(" "));
+            + " for func go goto if import interface map package range return select struct switch type"
+            + " var").split(" "));
     static final List<String> SIGNS = Arrays.asList(("+ - * / % & | ^ << >> &^ += -= *= /= %= &= |= ^= <<= >>= &^="
             + " && || <- ++ -- == < > = ! ~ != <= >= := ... ( ) [ ] { } , ; . :").split(" "));
     /** Eight tokens: token 0 of what stands behind it is token 8 of the program. */
