@@ -17,7 +17,8 @@ public final class DepthTest {
         {"map [ a ] b", 2, 1}, {"map [ * a ] b", 3, 2}, {"map [ a ] * b", 2, 1}, {"map [ a ] * * b", 3, 5},
         {"chan a", 1, 0}, {"chan <- a", 1, 0}, {"chan <- chan a", 2, 2}, {"<- chan a", 1, 0}, {"<- a", 1, 0},
         {"<- <- chan a", 2, 1}, {"<- chan chan a", 2, 2}, {"chan ( a )", 2, 1},
-        {"struct { }", 2, 1}, {"struct { a * b }", 3, 3}, {"struct { a b } { }", 2, 1}, {"struct { } { { { } } }", 3, 5},
+        {"struct { }", 2, 1}, {"struct { a * b }", 3, 3}, {"struct { a b } { }", 2, 1},
+        {"struct { } { { { } } }", 3, 5},
         {"interface { }", 2, 1}, {"interface { a ( ) }", 3, 3}, {"interface { a ( ) * b }", 3, 3},
         {"func ( ) a", 2, 1}, {"func ( ) * a", 2, 1}, {"func ( ) * * a", 3, 4}, {"func ( ) ( a )", 2, 1},
         {"func ( * a ) b", 3, 2}, {"func ( a , b * c ) ( )", 3, 5}, {"func ( ) func ( ) a", 3, 4},
@@ -26,7 +27,8 @@ public final class DepthTest {
     };
 
     private static final Object[][] TYPES = {
-        {"( a )", 1, 0}, {"( ( a ) )", 2, 1}, {"( * a )", 2, 1}, {"[ ] a", 1, 0}, {"[ 1 ] a", 1, 0}, {"[ - 1 ] a", 2, 1},
+        {"( a )", 1, 0}, {"( ( a ) )", 2, 1}, {"( * a )", 2, 1}, {"[ ] a", 1, 0}, {"[ 1 ] a", 1, 0},
+        {"[ - 1 ] a", 2, 1},
         {"[ 1 ] * a", 2, 3}, {"map [ a ] b", 2, 1}, {"chan a", 1, 0}, {"chan <- a", 1, 0}, {"<- chan a", 1, 0},
         {"<- chan <- chan a", 2, 2}, {"struct { a , b c }", 2, 1}, {"struct { a ( b ) ; c ( ( d ) ) }", 4, 9},
         {"func ( )", 2, 1}, {"func ( a b ) c", 2, 1}, {"func ( ... [ ] a )", 3, 3}, {"func ( ) ( ( a ) )", 3, 4},
@@ -34,16 +36,19 @@ public final class DepthTest {
     };
 
     private static final Object[][] STMTS = {
-        {"{ }", 1, 0}, {"{ { } ; { { } } }", 3, 5}, {"a : b", 1, 1}, {"a : b : c", 2, 3}, {"a : ; b : c", 1, 1}, {"a :", 1, 1},
+        {"{ }", 1, 0}, {"{ { } ; { { } } }", 3, 5}, {"a : b", 1, 1}, {"a : b : c", 2, 3}, {"a : ; b : c", 1, 1},
+        {"a :", 1, 1},
         {"a : { }", 2, 2}, {"a : b ( )", 2, 3}, {"a : b ; c ( )", 1, 1}, {"if a { }", 1, 2}, {"if ( a ) { }", 1, 1},
         {"if a { } else { }", 2, 5}, {"if a { } else if b { }", 2, 7}, {"if a { } else if b { } else { }", 3, 10},
         {"if a { } else if b { } ; { { { } } }", 3, 12}, {"a : if b { } else { c : d }", 4, 9},
         {"if a { } else if ( ( b ) ) { }", 3, 7}, {"for { }", 1, 1}, {"for a ; ; ( ( b ) ) { }", 2, 5},
         {"for range a { b ( ) }", 2, 5}, {"switch { }", 1, 1}, {"switch { case ( a ) : }", 2, 3},
-        {"switch { case a : { } }", 2, 5}, {"switch { case a : default : b : }", 2, 8}, {"switch a . ( type ) { }", 1, 3},
+        {"switch { case a : { } }", 2, 5}, {"switch { case a : default : b : }", 2, 8},
+        {"switch a . ( type ) { }", 1, 3},
         {"switch a . ( type ) { case * b : }", 2, 8}, {"select { }", 1, 1}, {"select { case a ( ) : }", 2, 4},
         {"var ( a b )", 1, 1}, {"var ( a * b )", 2, 3}, {"const ( a = ( 1 ) )", 2, 4}, {"type ( a b ; c * * d )", 3, 7},
-        {"var a * b", 1, 2}, {"go a ( )", 1, 2}, {"a = b [ 1 ]", 1, 3}, {"return - a", 1, 1}, {"a ( ) ; b [ ( c ) ]", 2, 6},
+        {"var a * b", 1, 2}, {"go a ( )", 1, 2}, {"a = b [ 1 ]", 1, 3}, {"return - a", 1, 1},
+        {"a ( ) ; b [ ( c ) ]", 2, 6},
     };
 
     /** Behind package p ; with nothing around them: the parts of a function's head are few. */

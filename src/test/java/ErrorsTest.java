@@ -98,6 +98,12 @@ public final class ErrorsTest {
         "switch a := b . ( type ) # ; { }", "switch # range a { }", "a . ( # type )", "a = b . ( # type )",
         "return a . ( # type )", "select { case a . ( # type ) : }", "select # a { }", "select # ; { }",
         "select # ( )",
+        "var a [ b . ( # type ) ] c", "go a . ( # type )", "a , b . ( # type ) = c", "a <- b . ( # type )",
+        "if a ; b . ( # type ) { }", "for range a . ( # type ) { }", "for ; a . ( # type ) ; { }",
+        "for ; ; a . ( # type ) { }", "for a = b . ( # type ) ; ; { }", "a [ b . ( # type ) ]",
+        "a [ : b . ( # type ) ]", "a [ : b : c . ( # type ) ]", "a ( b . ( # type ) )", "a { b . ( # type ) }",
+        "( a . ( # type ) )", "switch a { case b . ( # type ) : }", "switch a ( b . ( # type ) ) { }",
+        "switch func ( ) { a . ( # type ) } { }", "switch ; a # , b := c . ( type ) { }",
     };
 
     private static final String[] CLAUSES = {

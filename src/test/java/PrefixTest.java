@@ -11,8 +11,9 @@ public final class PrefixTest {
     private static final Check CHECK = new Check();
 
     private static final String[] STARTS = {
-        "package", "package p ;", "package p ; func f (", "package p ; func f ( ) (", "package p ; func (", "package p ; type t",
-        "package p ; const", "package p ; var", "package p ; var a = func ( a", "package p ; var a = [ ... ]",
+        "package", "package p ;", "package p ; func f (", "package p ; func f ( ) (", "package p ; func (",
+        "package p ; type t", "package p ; const", "package p ; var", "package p ; var a = func ( a",
+        "package p ; var a = [ ... ]",
         Source.IN_FUNCTION, Source.IN_FUNCTION + "a", Source.IN_FUNCTION + "a , b", Source.IN_FUNCTION + "a = ",
         Source.IN_FUNCTION + "a [", Source.IN_FUNCTION + "a (", Source.IN_FUNCTION + "a {", Source.IN_FUNCTION + "a .",
         Source.IN_FUNCTION + "if", Source.IN_FUNCTION + "if func ( ) {", Source.IN_FUNCTION + "if a ;",
