@@ -20,6 +20,7 @@ public final class CallsTest {
         addAllOfNoKindChangesNothing();
         addAllBeyondTheMostChangesNothing();
         mostTokensBecomeATree();
+        mostNodesBecomeATree();
         buildLeavesNoTokens();
         buildTellsHowManyNodes();
         buildTellsTheError();
@@ -275,6 +276,25 @@ public final class CallsTest {
         Source.give(x, Arrays.copyOf(kinds, MOST - 1));
         x.add(40);
         due("build with the END wrong", x.build(), -1 - MOST);
+    }
+
+    /** Eight nodes in five tokens, and no node in many: what there is room for does not depend on the program. */
+    private static void mostNodesBecomeATree() {
+        String head = "package p ; func f ( ) { switch { ";
+        TreeBuilder x = new TreeBuilder();
+        int[] kinds = Source.kinds(head + "case a : const a ".repeat(3274) + "} } ;");
+        due("tokens of many nodes", kinds.length, MOST - 1);
+        Source.give(x, kinds);
+        due("build of many nodes", x.build(), 8 + 8 * 3274);
+        due("the last clause", x.child(7, 3273), 8 + 8 * 3273);
+        CHECK.noChild(x, 7, 3274);
+        CHECK.noNode(x, 8 + 8 * 3274, 0);
+        kinds = Source.kinds(head + "default : " + "; ".repeat(16369) + "} } ;");
+        due("tokens of few nodes", kinds.length, MOST);
+        Source.give(x, kinds);
+        due("build of few nodes", x.build(), 10);
+        due("the last node", x.node(9, 0), 40);
+        CHECK.noNode(x, 10, 0);
     }
 
     // Promise 4: "The tokens, which are none then, become a tree: how many nodes it has. When there is an error:

@@ -112,6 +112,11 @@ public final class ErrorSentencesTest {
         String turnEnd = ") ] ) ";
         well("var a = " + turn.repeat(6) + "( ".repeat(6) + "a " + ") ".repeat(6) + turnEnd.repeat(6) + ";");
         error("var a = " + turn.repeat(6) + "( ".repeat(6) + "# ( a " + ") ".repeat(7) + turnEnd.repeat(6) + ";");
+        // In each of 30 parts, and around them, a sign of each binding waits for its right side.
+        String signs = "b || c && d == e + f * ";
+        String waiting = "var a = " + (signs + "( ").repeat(30) + signs + "g " + ") ".repeat(30) + ";";
+        CHECK.due(waiting, build(waiting), 7 + 30 * 11 + 10 + 1);
+        error("var a = " + (signs + "( ").repeat(30) + signs + "# ( g " + ") ".repeat(31) + ";");
         // As many as one likes, one behind another.
         well("var a = " + "( - a ) + ".repeat(300) + "a ;");
         well("var a = a " + "( b ) [ c ] ".repeat(300) + ";");

@@ -228,6 +228,19 @@ public final class StmtSentencesTest {
                 "switch ; a # , b := c . ( type ) { }", "switch a [ b . ( # type ) ] { }",
                 "if a . ( # type ) { }", "for a . ( # type ) { }", "a . ( # type )", "select { case a . ( # type ) : }",
                 "a := b . ( # type )", "for a := b . ( # type ) ; ; { }", "if a := b . ( # type ) ; c { }");
+        HOLD.stmts("a Guard stands in the head of a Switch, and in no other place of an Expr",
+                "switch a . ( type ) { } => 68:0[69:4[5:1]]", "a . ( b ) => 50:0[83:1[5:0 5:3]]",
+                "go a . ( # type )", "defer a . ( # type )", "return a . ( # type )", "return a , b . ( # type )",
+                "a , b . ( # type ) = c", "a = b . ( # type )", "a = b , c . ( # type )", "a += b . ( # type )",
+                "a <- b . ( # type )", "a : b . ( # type )", "var a = b . ( # type )", "const a = b . ( # type )",
+                "var a [ b . ( # type ) ] c", "if a ; b . ( # type ) { }", "for range a . ( # type ) { }",
+                "for a = range b . ( # type ) { }", "for ; a . ( # type ) ; { }", "for ; ; a . ( # type ) { }",
+                "for a = b . ( # type ) ; ; { }", "switch a { case b . ( # type ) : }", "a [ b . ( # type ) ]",
+                "select { case a = b . ( # type ) : }", "select { case a <- b . ( # type ) : }",
+                "switch a , b . ( # type ) = c ; { }", "switch a ( b . ( # type ) ) { }", "a [ : b . ( # type ) ]",
+                "a [ : b : c . ( # type ) ]", "a ( b . ( # type ) )", "a ( b , c . ( # type ) )",
+                "a { b . ( # type ) }",
+                "a { b : c . ( # type ) }", "( a . ( # type ) )", "- a . ( # type )", "a + b . ( # type )");
         HOLD.stmts("in a Switch with a Guard Types stand in the place of Exprs: "
                 + "Types [70, its first token]: Type {, Type}",
                 "switch a . ( type ) { case b : } => 68:0[69:4[5:1] 71:7[70:8[5:8] 40:9]]",
@@ -244,7 +257,14 @@ public final class StmtSentencesTest {
                 "switch a . ( type ) { case b # + c : }", "switch a . ( type ) { case # - b : }",
                 "switch a . ( type ) { case b # { } : }", "switch a . ( type ) { case func ( ) # { } : }",
                 "switch a . ( type ) { case [ # ... ] b : }", "switch a . ( type ) { default # b : }",
-                "switch a . ( type ) { case b : case # 1 : }");
+                "switch a . ( type ) { case b : case # 1 : }",
+                "switch ; a . ( type ) { case * b : } => 68:0[61:1 69:5[5:2] 71:8[70:9[26:9[5:10]] 40:11]]",
+                "switch ; a := b . ( type ) { case * c : } => "
+                + "68:0[61:1 69:7[12:2[5:2] 5:4] 71:10[70:11[26:11[5:12]] 40:13]]",
+                "switch ; a { case * b : } => 68:0[61:1 5:2 71:4[13:5[81:5[5:6]] 40:7]]",
+                "switch ; { case 1 : } => 68:0[61:1 71:3[13:4[88:4] 40:5]]",
+                "switch a := b . ( type ) { case # 1 : }", "switch ; a . ( type ) { case # 1 : }",
+                "switch ; a := b . ( type ) { case # 1 : }", "switch ; a . ( b ) { case c # d : }");
     }
 
     private static void clauses() {
