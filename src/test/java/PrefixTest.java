@@ -28,7 +28,8 @@ public final class PrefixTest {
 
     private static final int DEEPEST = 30;
     private static final BitSet OPENERS = kindsOf("( [ { func chan map struct interface * + - ! ^ & <- else :");
-    private static final BitSet CLOSERS = kindsOf(") ] }");
+    /** A ] is none: the '[' that it closes may be the first token of a Type, which goes on. */
+    private static final BitSet CLOSERS = kindsOf(") }");
     private static final int[] CLOSING = Source.kinds(") ] } ; a");
 
     private final TreeBuilder x = new TreeBuilder();
